@@ -154,6 +154,17 @@ public final class CacheTest {
         CHECK.same("a place in a corner of four cells", server.cellByDrawing(3, 4, 4, 7, 7), 4);
         CHECK.same("a place in a corner of four cells", server.cellByDrawing(3, 5, 5, 0, 0), 4);
         CHECK.same("a place in a corner of four cells", server.cellByDrawing(3, 4, 5, 7, 0), 4);
+        linesThatPassCorners();
+    }
+
+    private static void linesThatPassCorners() {
+        TileServer server = new TileServer();
+        server.addLine(0, 0, 64, 63);
+        CHECK.same("just below a corner", server.cellByDrawing(3, 0, 0, 0, 1), 0);
+        CHECK.same("the cell under that corner", server.cellByDrawing(3, 0, 0, 1, 0), 1);
+        server.movePoint(1, 1, 63, 64);
+        CHECK.same("just above a corner", server.cellByDrawing(3, 0, 0, 1, 0), 0);
+        CHECK.same("the cell over that corner", server.cellByDrawing(3, 0, 0, 0, 1), 1);
     }
 
     private static void cellsOfALineAreThoseOfItsLevel() {
@@ -174,6 +185,17 @@ public final class CacheTest {
             "..1111..",
             "..1111..",
             "...11...",
+            "........",
+            "........");
+        TileServer least = new TileServer();
+        least.addArea(3, 5, 1, 1);
+        cells("the least area, level 3", least, 3, 0, 0,
+            "........",
+            "........",
+            "..11....",
+            "..11....",
+            "........",
+            "........",
             "........",
             "........");
         server.moveArea(1, -31, -30);
@@ -358,6 +380,9 @@ public final class CacheTest {
         server.remove(1);
         server.remove(2);
         CHECK.same("after all was taken away", server.drawn(), 32L);
+        server.addArea(32, 32, 20, 40);
+        server.cellAt(3, 4, 4, 0, 0);
+        CHECK.same("a tile that is full", server.drawn(), 96L);
     }
 
     private static void promise39IsFresh() {

@@ -24,10 +24,15 @@ public final class LabelsTest {
         CHECK.end();
     }
 
+    /** Checks all that tells where a label is; another level is asked about between, which must not matter. */
     private static void label(String what, TileServer server, int shape, int level, char place, int left, int low) {
+        int other = level == 0 ? 3 : level - 1;
         CHECK.same(what + ", placeOf", server.placeOf(shape, level), place);
+        server.shownLabels(other);
         CHECK.same(what + ", labelLeft", server.labelLeft(shape, level), left);
+        server.labelLow(shape, other);
         CHECK.same(what + ", labelLow", server.labelLow(shape, level), low);
+        server.placeOf(shape, other);
     }
 
     /** Adds areas at one place, each with a label of the same width and rank. */
@@ -93,6 +98,14 @@ public final class LabelsTest {
         server.extend(1, 40, 10);
         server.setLabel(1, 1, 1);
         label("a point that is kept at no level", server, 1, 3, 'r', 44, 19);
+        server.dropPoint(1, 2);
+        label("without the point that was dropped", server, 1, 3, 'r', 38, 19);
+        server = new TileServer();
+        server.addLine(20, 30, 4, 10);
+        server.extend(1, 60, 64);
+        server.dropPoint(1, 2);
+        server.setLabel(1, 1, 1);
+        label("the first point is the greatest one", server, 1, 3, 'r', 24, 39);
     }
 
     private static void labelsGrowWithTheCells() {

@@ -30,7 +30,7 @@ public final class LabelsTest {
         CHECK.same(what + ", placeOf", server.placeOf(shape, level), place);
         server.shownLabels(other);
         CHECK.same(what + ", labelLeft", server.labelLeft(shape, level), left);
-        server.labelLow(shape, other);
+        server.placeOf(shape, other);
         CHECK.same(what + ", labelLow", server.labelLow(shape, level), low);
         server.placeOf(shape, other);
     }

@@ -142,6 +142,8 @@ public final class SimplifyTest {
         kept("5 away from a place, tolerance 4", server, 0, "xxx");
         server.setTolerance(0, 5);
         kept("5 away from a place, tolerance 5", server, 0, "x.x");
+        kept("5 away along the first coordinate", line(10, 10, 15, 10, 10, 10), 0, "xxx");
+        kept("5 away along the second coordinate", line(10, 10, 10, 15, 10, 10), 0, "xxx");
         kept("the first of two from a place", line(10, 10, 13, 14, 14, 13, 10, 10), 0, "xx.x");
         kept("all at a place", line(10, 10, 10, 10, 10, 10, 10, 10), 3, "x..x");
         kept("a ring", line(0, 0, 20, 0, 20, 20, 0, 20, 0, 0), 0, "xxxxx");

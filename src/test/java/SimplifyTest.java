@@ -27,15 +27,6 @@ public final class SimplifyTest {
         CHECK.end();
     }
 
-    private static TileServer line(int... coordinates) {
-        TileServer server = new TileServer();
-        server.addLine(coordinates[0], coordinates[1], coordinates[2], coordinates[3]);
-        for (int i = 4; i < coordinates.length; i += 2) {
-            server.extend(1, coordinates[i], coordinates[i + 1]);
-        }
-        return server;
-    }
-
     /** Checks all that tells which points of the line 1 are kept at a level: 'x' stands for one that is. */
     private static void kept(String what, TileServer server, int level, String due) {
         StringBuilder divided = new StringBuilder();
@@ -61,7 +52,7 @@ public final class SimplifyTest {
     }
 
     private static TileServer lineAndArea() {
-        TileServer server = line(0, 0, 10, 3, 20, 0);
+        TileServer server = Recipes.line(0, 0, 10, 3, 20, 0);
         server.addArea(50, 50, 4, 6);
         server.cellAt(0, 0, 0, 0, 0);
         server.cellAt(1, 0, 0, 0, 0);
@@ -95,24 +86,24 @@ public final class SimplifyTest {
 
     private static void theFirstTolerancesHold() {
         // The point in the middle is 3 away from the straight line.
-        TileServer server = line(0, 0, 10, 3, 20, 0);
+        TileServer server = Recipes.line(0, 0, 10, 3, 20, 0);
         kept("3 away, level 0", server, 0, "x.x");
         kept("3 away, level 1", server, 1, "xxx");
         kept("3 away, level 2", server, 2, "xxx");
         kept("3 away, level 3", server, 3, "xxx");
         // On the straight line, it is not farther than 0.
-        kept("0 away, level 3", line(0, 0, 5, 5, 20, 20), 3, "x.x");
-        kept("two points", line(3, 4, 5, 6), 3, "xx");
+        kept("0 away, level 3", Recipes.line(0, 0, 5, 5, 20, 20), 3, "x.x");
+        kept("two points", Recipes.line(3, 4, 5, 6), 3, "xx");
     }
 
     private static void fartherThanTheToleranceOnly() {
-        TileServer server = line(0, 0, 10, 5, 20, 0);
+        TileServer server = Recipes.line(0, 0, 10, 5, 20, 0);
         server.setTolerance(0, 5);
         kept("5 away, tolerance 5", server, 0, "x.x");
         server.setTolerance(0, 4);
         kept("5 away, tolerance 4", server, 0, "xxx");
         // From (0, 0) to (8, 6), the straight line is 10 long; (0, 5) is 4 away and (0, 6) somewhat more.
-        server = line(0, 0, 0, 5, 8, 6);
+        server = Recipes.line(0, 0, 0, 5, 8, 6);
         kept("4 away aslant, tolerance 4", server, 0, "x.x");
         server.movePoint(1, 1, 0, 6);
         kept("4.8 away aslant, tolerance 4", server, 0, "xxx");
@@ -122,51 +113,51 @@ public final class SimplifyTest {
 
     private static void theFirstOfSeveralFarthest() {
         // The points 1 and 2 are both 5 away. With the first one kept, the second one is 2.2 away.
-        TileServer server = line(0, 0, 5, 5, 15, 5, 20, 0);
+        TileServer server = Recipes.line(0, 0, 5, 5, 15, 5, 20, 0);
         kept("the first of two", server, 0, "xx.x");
         // Now the second one is on the other side, and both are needed.
-        kept("two on both sides", line(0, 32, 5, 37, 15, 27, 20, 32), 0, "xxxx");
-        kept("the greater of two", line(0, 0, 4, 5, 15, 6, 20, 0), 0, "x.xx");
+        kept("two on both sides", Recipes.line(0, 32, 5, 37, 15, 27, 20, 32), 0, "xxxx");
+        kept("the greater of two", Recipes.line(0, 0, 4, 5, 15, 6, 20, 0), 0, "x.xx");
     }
 
     private static void theStraightLineGoesOn() {
         // The point lies far behind the last one, but on the same straight line.
-        kept("behind the end", line(0, 10, 60, 10, 20, 10), 3, "x.x");
-        kept("2 beside, far behind the end", line(0, 10, 60, 12, 20, 10), 1, "x.x");
-        kept("3 beside, far behind the end", line(0, 10, 60, 13, 20, 10), 1, "xxx");
+        kept("behind the end", Recipes.line(0, 10, 60, 10, 20, 10), 3, "x.x");
+        kept("2 beside, far behind the end", Recipes.line(0, 10, 60, 12, 20, 10), 1, "x.x");
+        kept("3 beside, far behind the end", Recipes.line(0, 10, 60, 13, 20, 10), 1, "xxx");
     }
 
     private static void endsAtTheSamePlace() {
         // The distance to a place counts: (3, 4) is 5 away from it.
-        TileServer server = line(10, 10, 13, 14, 10, 10);
+        TileServer server = Recipes.line(10, 10, 13, 14, 10, 10);
         kept("5 away from a place, tolerance 4", server, 0, "xxx");
         server.setTolerance(0, 5);
         kept("5 away from a place, tolerance 5", server, 0, "x.x");
-        kept("5 away along the first coordinate", line(10, 10, 15, 10, 10, 10), 0, "xxx");
-        kept("5 away along the second coordinate", line(10, 10, 10, 15, 10, 10), 0, "xxx");
-        kept("the first of two from a place", line(10, 10, 13, 14, 14, 13, 10, 10), 0, "xx.x");
-        kept("all at a place", line(10, 10, 10, 10, 10, 10, 10, 10), 3, "x..x");
-        kept("a ring", line(0, 0, 20, 0, 20, 20, 0, 20, 0, 0), 0, "xxxxx");
+        kept("5 away along the first coordinate", Recipes.line(10, 10, 15, 10, 10, 10), 0, "xxx");
+        kept("5 away along the second coordinate", Recipes.line(10, 10, 10, 15, 10, 10), 0, "xxx");
+        kept("the first of two from a place", Recipes.line(10, 10, 13, 14, 14, 13, 10, 10), 0, "xx.x");
+        kept("all at a place", Recipes.line(10, 10, 10, 10, 10, 10, 10, 10), 3, "x..x");
+        kept("a ring", Recipes.line(0, 0, 20, 0, 20, 20, 0, 20, 0, 0), 0, "xxxxx");
     }
 
     private static void pointsAtTheSamePlace() {
-        kept("the first of two at a place", line(0, 0, 10, 9, 10, 9, 20, 0), 0, "xx.x");
-        kept("the first point once more", line(0, 0, 0, 0, 20, 0), 3, "x.x");
+        kept("the first of two at a place", Recipes.line(0, 0, 10, 9, 10, 9, 20, 0), 0, "xx.x");
+        kept("the first point once more", Recipes.line(0, 0, 0, 0, 20, 0), 3, "x.x");
     }
 
     private static void divisionGoesOnInBothParts() {
-        TileServer server = line(0, 0, 8, 20, 16, 0, 24, 40, 32, 0, 40, 20, 48, 0);
+        TileServer server = Recipes.line(0, 0, 8, 20, 16, 0, 24, 40, 32, 0, 40, 20, 48, 0);
         kept("all peaks", server, 0, "xxxxxxx");
         // A spiral is divided at one point after the other.
-        server = line(0, 0, 64, 0, 64, 64, 10, 64, 10, 10, 50, 10, 50, 50, 20, 50, 20, 20);
+        server = Recipes.line(0, 0, 64, 0, 64, 64, 10, 64, 10, 10, 50, 10, 50, 50, 20, 50, 20, 20);
         kept("a spiral", server, 0, "xxxxxxxxx");
-        server = line(0, 0, 10, 1, 20, 0, 30, 1, 40, 30, 41, 40, 42, 30, 43, 30, 44, 0);
+        server = Recipes.line(0, 0, 10, 1, 20, 0, 30, 1, 40, 30, 41, 40, 42, 30, 43, 30, 44, 0);
         kept("little and great ones, level 0", server, 0, "x..x.x..x");
         kept("little and great ones, level 3", server, 3, "xxxxxxxxx");
     }
 
     private static void changesOfALineChangeWhatIsKept() {
-        TileServer server = line(0, 0, 10, 3, 20, 0);
+        TileServer server = Recipes.line(0, 0, 10, 3, 20, 0);
         server.extend(1, 20, 30);
         kept("after extend", server, 0, "x.xx");
         server.movePoint(1, 1, 10, 30);
@@ -198,7 +189,7 @@ public final class SimplifyTest {
     }
 
     private static void promise38MeanKept() {
-        TileServer server = line(0, 0, 10, 3, 20, 0);
+        TileServer server = Recipes.line(0, 0, 10, 3, 20, 0);
         CHECK.same("mean of one line, level 0", server.meanKept(0), 2.0);
         CHECK.same("mean of one line, level 3", server.meanKept(3), 3.0);
         server.addArea(9, 9, 9, 9);
